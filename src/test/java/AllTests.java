@@ -1,0 +1,13 @@
+/** Runs every test of the project, and ends with exit code 1 if an answer was not as due. */
+public final class AllTests {
+    private AllTests() {
+    }
+
+    public static void main(String[] arguments) throws Exception {
+        ModelTest.run();
+        System.out.println(Check.made + " answers looked at, " + Check.wrong + " not as due");
+        if (Check.wrong > 0) {
+            System.exit(1);
+        }
+    }
+}
