@@ -4,6 +4,11 @@ public final class AllTests {
     }
 
     public static void main(String[] arguments) throws Exception {
+        FaceAndFlatTest.run();
+        SpaceAndPressTest.run();
+        ShopTest.run();
+        WildTest.run();
+        LanguageTest.run(arguments.length > 0 ? arguments[0] : "src/main/java/BendTable.java");
         ModelTest.run();
         System.out.println(Check.made + " answers looked at, " + Check.wrong + " not as due");
         if (Check.wrong > 0) {

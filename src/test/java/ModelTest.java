@@ -20,6 +20,8 @@ final class ModelTest {
 
     private final Draw draw;
     private final int most;
+    // Until here, parts are built; a part in a line is built no more.
+    private final int building;
     private final Object program = new BendTable();
     private final Object model = new Model();
     private final StringBuilder log = new StringBuilder();
@@ -29,6 +31,7 @@ final class ModelTest {
         draw = new Draw(seed);
         // Small shops have few faces, so that the model soon ends.
         most = draw.from(2, 8);
+        building = draw.from(6, 90);
         this.seen = seen;
     }
 
@@ -57,6 +60,7 @@ final class ModelTest {
         }
         for (int call = 0; call < CALLS; call++) {
             Method m = call < 3 ? named(all, "gauge") : call < 6 ? named(all, "part")
+                    : call < building ? named(all, draw.from(0, 4) > 0 ? "face" : "hole")
                     : drawn.get(draw.from(0, drawn.size() - 1));
             Object[] arguments = arguments(m.getName());
             if (arguments == null) {
@@ -94,7 +98,7 @@ final class ModelTest {
 
     private Object[] arguments(String name) {
         BendTable t = (BendTable) program;
-        int part = draw.wild(0, 4, 30);
+        int part = draw.wild(0, Math.max(0, parts(t) - 1), 30);
         switch (name) {
             case "gauge":
                 return new Object[] {draw.wild(5, 60, 20), draw.wild(0, draw.from(0, 3) == 0 ? 20 : 3, 30)};
@@ -107,7 +111,10 @@ final class ModelTest {
                 int face = draw.wild(0, Math.max(0, count(t, part) - 1), 20);
                 int w = size(t, part, face, 'w');
                 int h = size(t, part, face, 'h');
-                return new Object[] {part, face, draw.from(0, w), draw.from(0, h), draw.from(0, w), draw.from(0, h)};
+                int x = draw.from(0, 5) == 0 ? draw.from(0, w) : draw.from(1, w / 2);
+                int y = draw.from(0, 5) == 0 ? draw.from(0, h) : draw.from(1, h / 2);
+                return new Object[] {part, face, x, y, draw.from(draw.from(0, 5) > 0 ? 1 : 0, w - x - 1),
+                    draw.from(draw.from(0, 5) > 0 ? 1 : 0, h - y)};
             }
             case "flatAt":
                 return new Object[] {part, anyFace(t, part), draw.oneOf("xywhz")};
@@ -135,20 +142,20 @@ final class ModelTest {
             case "tool":
                 return new Object[] {draw.wild(1, 12, 10), draw.wild(1, 12, 10)};
             case "toolOf":
-                return new Object[] {part, draw.wild(0, 3, 10)};
+                return new Object[] {part, draw.wild(0, holes(t, part), 10)};
             case "stock":
                 return new Object[] {draw.wild(0, 1, 20), draw.wild(draw.from(4, 120), 200, 20),
                     draw.wild(draw.from(4, 120), 200, 20), draw.oneOf("xyxyxyz"), draw.wild(1, 5, 20)};
             case "sheets":
-                return new Object[] {draw.wild(0, 9, 10)};
+                return new Object[] {draw.wild(0, stocks(t), 10)};
             case "size":
-                return new Object[] {draw.wild(0, 9, 10), draw.from(0, 1) == 1};
+                return new Object[] {draw.wild(0, stocks(t), 10), draw.from(0, 1) == 1};
             case "line":
                 return new Object[] {part, draw.wild(1, 40, 20), draw.wild(0, draw.from(0, 3) == 0 ? 99 : 6, 20)};
             case "fits":
-                return new Object[] {part, draw.wild(0, 9, 10)};
+                return new Object[] {part, draw.wild(0, stocks(t), 10)};
             case "nest": case "took": case "waste": case "ends": case "late": case "price":
-                return new Object[] {draw.wild(0, 6, 20)};
+                return new Object[] {draw.wild(0, lines(t), 20)};
             case "measure":
                 return new Object[] {draw.wild(0, 1, 20), draw.wild(880, 930, 10)};
             case "setting":
@@ -176,6 +183,42 @@ final class ModelTest {
             draw.oneOf("uuuuddddhhhq")};
     }
 
+    private static int parts(BendTable t) {
+        int parts = 0;
+        while (count(t, parts) > 0) {
+            parts++;
+        }
+        return parts;
+    }
+
+    private static int stocks(BendTable t) {
+        return Math.max(0, t.stocks() - 1);
+    }
+
+    private static int lines(BendTable t) {
+        int lines = 0;
+        try {
+            while (t.took(lines) >= 0) {
+                lines++;
+            }
+        } catch (IndexOutOfBoundsException e) {
+            return Math.max(0, lines - 1);
+        }
+        return 0;
+    }
+
+    private static int holes(BendTable t, int part) {
+        int holes = 0;
+        try {
+            while (t.toolOf(part, holes) >= -1) {
+                holes++;
+            }
+        } catch (IndexOutOfBoundsException e) {
+            return Math.max(0, holes - 1);
+        }
+        return 0;
+    }
+
     private static int count(BendTable t, int part) {
         try {
             return t.faces(part);
@@ -193,7 +236,8 @@ final class ModelTest {
     }
 
     private int anyFace(BendTable t, int part) {
-        return draw.wild(0, Math.max(0, count(t, part) - 1), 20);
+        int last = Math.max(0, count(t, part) - 1);
+        return draw.wild(Math.min(last, draw.from(0, 4) == 0 ? 0 : 1), last, 20);
     }
 
     private int bends(BendTable t, int part) {
