@@ -106,7 +106,7 @@ final class ShopTest {
         Check.badArgument("29: no grain", () -> t.stock(0, 10, 10, '-', 1));
         Check.badArgument("29: no sheets", () -> t.stock(0, 10, 10, 'x', 0));
         Check.badArgument("29: 21 sheets", () -> t.stock(0, 10, 10, 'x', 21));
-        Check.due("29: the least", t.stock(0, 4, 5, 'x', 1), 0);
+        Check.due("29: the least", t.stock(0, 4, 4, 'x', 1), 0);
         Check.due("29: the most", t.stock(0, 900, 899, 'y', 20), 1);
         Check.due("30: 1", t.sheets(0), 1);
         Check.due("30: 20", t.sheets(1), 20);
@@ -418,6 +418,22 @@ final class ShopTest {
         Check.due("41: due on the next day", t.late(3), 0);
         Check.due("41: early", t.late(0), 0);
         Check.noPlace("41: no line", () -> t.late(4));
+        BendTable v = FaceAndFlatTest.shop(10, 0, 13, 12, '-');
+        v.hole(0, 0, 2, 2, 9, 8);
+        v.tool(9, 1);
+        v.part(0, 4, 4, '-');
+        v.stock(0, 900, 900, 'x', 20);
+        Check.due("27: 8 hits, a tool, and an edge of 50", v.flatTime(0), 14);
+        v.line(0, 34, 0);
+        v.line(1, 4, 0);
+        v.line(1, 1, 0);
+        for (int i = 0; i < 3; i++) {
+            v.nest(i);
+        }
+        Check.due("40: the last minute", v.ends(1), 480);
+        Check.due("41: the last minute", v.late(1), 0);
+        Check.due("40: the first minute of a day", v.ends(2), 481);
+        Check.due("41: the first minute of a day", v.late(2), 1);
         for (int i = 4; i < 10; i++) {
             t.line(1, 40, 0);
             t.nest(i);
