@@ -7,6 +7,14 @@ public final class AllTests {
         FaceAndFlatTest.run();
         SpaceAndPressTest.run();
         ShopTest.run();
+        PartEdges.run();
+        FlatEdges.run();
+        SpaceEdges.run();
+        PressEdges.run();
+        TurretEdges.run();
+        SheetEdges.run();
+        LotEdges.run();
+        FigureEdges.run();
         WildTest.run();
         LanguageTest.run(arguments.length > 0 ? arguments[0] : "src/main/java/BendTable.java");
         ModelTest.run();
