@@ -28,9 +28,17 @@ final class Check {
         try {
             got = call.run();
         } catch (RuntimeException e) {
+            due(name + ", thrown by the program itself", isOwn(e));
             got = e.getClass();
         }
         due(name, got, want);
+    }
+
+    /** Whether the program has thrown it by a throw of its own, and neither the machine nor its library has. */
+    static boolean isOwn(Throwable thrown) {
+        StackTraceElement[] where = thrown.getStackTrace();
+        // Where the machine has thrown often at a place, it leaves the trace out.
+        return where.length > 0 && where[0].getClassName().startsWith("BendTable");
     }
 
     static void noPlace(String name, Call call) {

@@ -47,6 +47,7 @@ final class Edge {
         try {
             return use.on(t);
         } catch (RuntimeException e) {
+            Check.due("thrown by the program itself: " + e, Check.isOwn(e));
             return e.getClass();
         }
     }

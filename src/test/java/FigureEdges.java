@@ -10,6 +10,7 @@ final class FigureEdges {
         checksums();
         checksumWraps();
         soundness();
+        soundnessOfOrders();
         emptyShop();
         fullShop();
         lastCall();
@@ -129,6 +130,24 @@ final class FigureEdges {
         Edge.answers("23: behind it", 5040, Shops.FULL, t -> t.isSound() ? t.orders(0) : -1);
         Edge.answers("22: behind it, without an order", java.util.NoSuchElementException.class, Shops.FULL,
                 t -> t.isSound() ? t.bendAt(3, 0) : -1);
+    }
+
+    private static void soundnessOfOrders() {
+        // Each edge has to be bent ahead of its wall, which would be too high with it.
+        BendTable t = Shops.of(10, 0, 60, 30, '-');
+        t.face(0, 0, 'e', 0, 30, 15, 'u');
+        t.face(0, 1, 'e', 0, 30, 10, 'u');
+        t.face(0, 0, 'w', 0, 30, 15, 'u');
+        t.face(0, 3, 'w', 0, 30, 10, 'd');
+        Check.due("23: each edge ahead of its wall", t.orders(0), 6);
+        Check.due("46: where the order counts", t.isSound());
+        Check.due("21: turned over behind the edge that goes down", t.cost(0), 3);
+        int[] best = {4, 2, 1, 3};
+        for (int i = 0; i < 4; i++) {
+            Check.due("22: the edge that goes down first, " + i, t.bendAt(0, i), best[i]);
+        }
+        t.limits(29, 200);
+        Check.due("46: where no order is good", t.isSound());
     }
 
     // ---- shops as a whole

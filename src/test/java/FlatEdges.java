@@ -8,6 +8,7 @@ final class FlatEdges {
         flatPlaces();
         partNumbers();
         wholeFlat();
+        staircases();
         area();
         outline();
         reliefs();
@@ -100,6 +101,24 @@ final class FlatEdges {
         corner.face(0, 0, 'w', 0, 12, 5, 'u');
         corner.face(0, 0, 's', 0, 10, 6, 'u');
         whole("below 0", corner, 18, 21, 120 + 36 + 60 + 30 + 60, 78);
+    }
+
+    /** Chains of 8, each face shorter than the one at which it hangs: no two of their edges lie on one line. */
+    private static void staircases() {
+        for (char side : "nesw".toCharArray()) {
+            BendTable t = Shops.of(10, 3, 100, 100, '-');
+            int area = 100 * 100;
+            for (int i = 1; i < 8; i++) {
+                t.face(0, i - 1, side, 3, 100 - 10 * i, 10 + i, 'u');
+                area += (100 - 10 * i) * (13 + i);
+            }
+            // 7 strips of 3, and depths of 11 to 17.
+            int far = 100 + 21 + 98;
+            boolean isUpright = side == 'e' || side == 'w';
+            whole("a staircase to " + side, t, isUpright ? far : 100, isUpright ? 100 : far, area, 2 * (far + 100));
+            Check.due("12: a staircase to " + side, t.reliefs(0), 14);
+            Check.due("14: a staircase to " + side, t.hasFault(0, 'o'), false);
+        }
     }
 
     private static void area() {

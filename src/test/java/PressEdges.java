@@ -21,6 +21,8 @@ final class PressEdges {
         bedDepth();
         upperSide();
         bentFaceLookedAt();
+        firstFaceLookedAt();
+        lastFaceLookedAt();
         hemStruck();
         aheadAndBehind();
         metAheadOnly();
@@ -309,6 +311,59 @@ final class PressEdges {
         Check.due("20: that is bent back to as high as 10", t.strikes(0, 4, 1), 'p');
         t.tools(10, 10, 1, 1);
         Check.due("20: that is bent back, and it is clear", t.strikes(0, 4, 1), '-');
+    }
+
+    /** The face 0 stands beside the line when a bend is made at a face that is bent itself. */
+    private static void firstFaceLookedAt() {
+        // Bend 1 up: seen from the face 1, the face 0 is a wall of 40 up, 10 behind the line of bend 2.
+        BendTable t = Shops.of(10, 0, 40, 60, '-');
+        t.face(0, 0, 'e', 0, 60, 10, 'u');
+        t.face(0, 1, 'e', 0, 60, 5, 'u');
+        t.tools(11, 39, 8, 60);
+        Check.due("20: the face 0 strikes the punch", t.strikes(0, 2, 2), 'p');
+        t.tools(10, 39, 8, 60);
+        Check.due("20: the face 0 is beside the punch", t.strikes(0, 2, 2), '-');
+        t.tools(11, 40, 8, 60);
+        Check.due("20: the face 0 is as high as it is clear", t.strikes(0, 2, 2), '-');
+        // Bend 1 down: the face 0 is a wall of 40 down.
+        BendTable u = Shops.of(10, 0, 40, 60, '-');
+        u.face(0, 0, 'e', 0, 60, 10, 'd');
+        u.face(0, 1, 'e', 0, 60, 5, 'u');
+        u.tools(1, 39, 11, 60);
+        Check.due("20: the face 0 strikes the die", u.strikes(0, 2, 2), 'd');
+        u.tools(1, 39, 10, 60);
+        Check.due("20: the face 0 is beside the die", u.strikes(0, 2, 2), '-');
+        u.tools(1, 39, 10, 39);
+        Check.due("20: the face 0 strikes the bed", u.strikes(0, 2, 2), 'b');
+        u.tools(1, 39, 10, 40);
+        Check.due("20: the face 0 is as deep as the bed", u.strikes(0, 2, 2), '-');
+        // The face 0 comes up to the end of the bend only.
+        for (int length = 20; length <= 21; length++) {
+            BendTable v = Shops.of(10, 0, 40, 60, '-');
+            v.face(0, 0, 'e', 0, 60, 30, 'u');
+            v.face(0, 1, 'n', 0, 30, 30, 'u');
+            v.face(0, 2, 'e', 0, length, 5, 'u');
+            v.tools(60, 30, 8, 60);
+            Check.due("20: the face 0 is beside a bend of " + length, v.strikes(0, 2, 3), '-');
+        }
+    }
+
+    /** Seven bends, of which only the last one's face is too high, and a smaller part beside it. */
+    private static void lastFaceLookedAt() {
+        BendTable t = Shops.of(10, 0, 100, 50, '-');
+        for (int i = 0; i < 6; i++) {
+            t.face(0, 0, 'n', 10 * i, 10, 5, 'u');
+        }
+        t.face(0, 0, 's', 0, 100, 30, 'u');
+        t.part(0, 100, 60, '-');
+        t.face(1, 0, 'e', 0, 60, 5, 'u');
+        t.tools(60, 20, 8, 60);
+        Check.due("20: the face 7", t.strikes(0, 128, 1), 'p');
+        Check.due("20: not yet", t.strikes(0, 124, 1), '-');
+        Check.due("23: it is always in the way", t.orders(0), 0);
+        Check.due("20: what was laid before is no face of this part", t.strikes(1, 0, 1), '-');
+        Check.due("23: nor in its orders", t.orders(1), 1);
+        Check.due("16: nor does it meet", t.isMet(1, 2), false);
     }
 
     private static void hemStruck() {

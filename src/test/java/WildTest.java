@@ -70,9 +70,6 @@ final class WildTest {
 
     /** Whether the method tells of the exception, and the program itself threw it. */
     private static boolean isOwn(Method m, Throwable thrown) {
-        boolean isTold = Arrays.asList(m.getExceptionTypes()).contains(thrown.getClass());
-        StackTraceElement[] where = thrown.getStackTrace();
-        // Where the machine has thrown often at a place, it leaves the trace out.
-        return isTold && (where.length == 0 || where[0].getClassName().startsWith("BendTable"));
+        return Arrays.asList(m.getExceptionTypes()).contains(thrown.getClass()) && Check.isOwn(thrown);
     }
 }
