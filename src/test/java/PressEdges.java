@@ -23,6 +23,7 @@ final class PressEdges {
         bentFaceLookedAt();
         firstFaceLookedAt();
         lastFaceLookedAt();
+        otherPartFolded();
         hemStruck();
         aheadAndBehind();
         metAheadOnly();
@@ -364,6 +365,23 @@ final class PressEdges {
         Check.due("20: what was laid before is no face of this part", t.strikes(1, 0, 1), '-');
         Check.due("23: nor in its orders", t.orders(1), 1);
         Check.due("16: nor does it meet", t.isMet(1, 2), false);
+    }
+
+    /** A part of 8 faces, all of them walls in the way, is folded just ahead of each question about another part. */
+    private static void otherPartFolded() {
+        BendTable t = Shops.of(10, 0, 100, 70, '-');
+        for (int i = 0; i < 7; i++) {
+            t.face(0, 0, 'e', 10 * i, 10, 30, 'u');
+        }
+        t.part(0, 100, 70, '-');
+        t.face(1, 0, 'e', 0, 70, 5, 'u');
+        Check.due("15: a wall of the one part", t.spaceAt(0, 254, 7, 'z', true), 30);
+        Check.due("20: is not in the way of the other one", t.strikes(1, 0, 1), '-');
+        Check.due("15: a wall of the one part again", t.spaceAt(0, 254, 2, 'z', true), 30);
+        Check.due("23: nor of its orders", t.orders(1), 1);
+        Check.due("15: and once more", t.spaceAt(0, 254, 3, 'z', true), 30);
+        Check.due("16: nor does it meet", t.isMet(1, 2), false);
+        Check.due("14: nor is it a fault", t.hasFault(1, 'c'), false);
     }
 
     private static void hemStruck() {

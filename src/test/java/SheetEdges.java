@@ -21,6 +21,7 @@ final class SheetEdges {
         offcutHeight();
         offcutWidth();
         offcutBehind();
+        offcutGrain();
         offcutEach();
         offcutsUpTo10();
         tookAndWaste();
@@ -391,16 +392,21 @@ final class SheetEdges {
         Check.due("30: the first offcut is taken", t.sheets(2), 0);
         Check.due("30: the second offcut is not", t.sheets(3), 1);
         Check.due("31: 28 - 20 - 2 is no offcut", t.stocks(), 4);
-        // The offcut's grain is that of its sheet.
-        BendTable u = Shops.of(10, 0, 10, 30, 'y');
-        u.part(0, 60, 20, 'x');
-        u.part(0, 60, 20, 'y');
-        u.stock(0, 60, 52, 'y', 1);
-        u.line(0, 1, 0);
-        u.nest(0);
-        Check.due("31: an offcut of 60 by 20", u.size(1, true), 20);
-        Check.due("34: along the sheet's grain", u.fits(2, 1), 1);
-        Check.due("34: across the sheet's grain", u.fits(1, 1), 0);
+    }
+
+    private static void offcutGrain() {
+        for (char grain : "xy".toCharArray()) {
+            char other = grain == 'x' ? 'y' : 'x';
+            BendTable t = Shops.of(10, 0, 10, 30, grain);
+            t.part(0, 60, 20, other);
+            t.part(0, 60, 20, grain);
+            t.stock(0, 60, 52, grain, 1);
+            t.line(0, 1, 0);
+            t.nest(0);
+            Check.due("31: an offcut of 60 by 20", t.size(1, true), 20);
+            Check.due("34: along the sheet's grain, " + grain, t.fits(2, 1), 1);
+            Check.due("34: across the sheet's grain, " + grain, t.fits(1, 1), 0);
+        }
     }
 
     private static void offcutEach() {
