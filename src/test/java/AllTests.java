@@ -16,7 +16,9 @@ public final class AllTests {
         LotEdges.run();
         FigureEdges.run();
         WildTest.run();
-        LanguageTest.run(arguments.length > 0 ? arguments[0] : "src/main/java/BendTable.java");
+        String program = arguments.length > 0 ? arguments[0] : "src/main/java/BendTable.java";
+        LanguageTest.run(program);
+        RulesTest.run(program);
         ModelTest.run();
         System.out.println(Check.made + " answers looked at, " + Check.wrong + " not as due");
         if (Check.wrong > 0) {

@@ -26,23 +26,27 @@ final class ModelTest {
     private final Object model = new Model();
     private final StringBuilder log = new StringBuilder();
     private final Map<String, Integer> seen;
+    // Large shops have lengths of the whole ranges, small ones such that much is near the edges of something.
+    private final boolean isLarge;
 
-    private ModelTest(long seed, Map<String, Integer> seen) {
+    private ModelTest(long seed, boolean isLarge, Map<String, Integer> seen) {
         draw = new Draw(seed);
         // Small shops have few faces, so that the model soon ends.
         most = draw.from(2, 8);
         building = draw.from(6, 90);
         this.seen = seen;
+        this.isLarge = isLarge;
     }
 
     static void run() {
-        run(1, 160);
+        run(1, 160, false);
+        run(1001, 40, true);
     }
 
-    static void run(long first, int runs) {
+    static void run(long first, int runs, boolean isLarge) {
         Map<String, Integer> seen = new TreeMap<>();
         for (long seed = first; seed < first + runs; seed++) {
-            new ModelTest(seed, seen).compare(seed);
+            new ModelTest(seed, isLarge, seen).compare(seed);
         }
         if (Boolean.getBoolean("seen")) {
             seen.forEach((what, times) -> System.out.println(times + " " + what));
@@ -103,7 +107,8 @@ final class ModelTest {
             case "gauge":
                 return new Object[] {draw.wild(5, 60, 20), draw.wild(0, draw.from(0, 3) == 0 ? 20 : 3, 30)};
             case "part":
-                return new Object[] {draw.wild(0, 1, 20), draw.wild(4, 40, 30), draw.wild(4, 40, 30),
+                return new Object[] {draw.wild(0, 1, 20), draw.wild(4, upTo(40, 300), 30),
+                    draw.wild(4, upTo(40, 300), 30),
                     draw.oneOf("xy---z")};
             case "face":
                 return face(t, part);
@@ -126,8 +131,8 @@ final class ModelTest {
             case "isMet":
                 return new Object[] {part, bends(t, part)};
             case "tools":
-                return new Object[] {draw.wild(1, 12, 30), draw.wild(0, 40, 30), draw.wild(1, 12, 30),
-                    draw.wild(draw.from(1, 40), 60, 30)};
+                return new Object[] {draw.wild(1, upTo(12, 60), 30), draw.wild(0, upTo(40, 100), 30),
+                    draw.wild(1, upTo(12, 60), 30), draw.wild(draw.from(1, upTo(40, 250)), upTo(60, 300), 30)};
             case "limits":
                 return new Object[] {draw.wild(draw.from(1, 40), 60, 20), draw.wild(0, 40, 20)};
             case "force":
@@ -144,8 +149,9 @@ final class ModelTest {
             case "toolOf":
                 return new Object[] {part, draw.wild(0, holes(t, part), 10)};
             case "stock":
-                return new Object[] {draw.wild(0, 1, 20), draw.wild(draw.from(4, 120), 200, 20),
-                    draw.wild(draw.from(4, 120), 200, 20), draw.oneOf("xyxyxyz"), draw.wild(1, 5, 20)};
+                return new Object[] {draw.wild(0, 1, 20), draw.wild(draw.from(4, upTo(120, 900)), upTo(200, 900), 20),
+                    draw.wild(draw.from(4, upTo(120, 900)), upTo(200, 900), 20), draw.oneOf("xyxyxyz"),
+                    draw.wild(1, 5, 20)};
             case "sheets":
                 return new Object[] {draw.wild(0, stocks(t), 10)};
             case "size":
@@ -167,6 +173,10 @@ final class ModelTest {
         }
     }
 
+    private int upTo(int ifSmall, int ifLarge) {
+        return isLarge ? ifLarge : ifSmall;
+    }
+
     private Object[] face(BendTable t, int part) {
         int known = count(t, part);
         // The model goes through all orders: most parts stay small.
@@ -178,7 +188,8 @@ final class ModelTest {
         int whole = size(t, part, of, side == 'e' || side == 'w' ? 'h' : 'w');
         int distance = draw.from(0, 2) == 0 ? 0 : draw.from(0, whole);
         int length = draw.from(0, 2) == 0 ? whole - distance : draw.from(0, whole);
-        int depth = draw.from(0, 1) == 0 ? draw.wild(1, 12, 40) : draw.wild(1, 40, 60);
+        int depth = draw.from(0, 1) == 0 ? draw.wild(1, upTo(12, 40), 40)
+                : draw.wild(1, upTo(40, 300), 60);
         return new Object[] {part, of, side, draw.from(0, 40) == 0 ? -1 : distance, length, depth,
             draw.oneOf("uuuuddddhhhq")};
     }
