@@ -18,7 +18,12 @@ public final class AllTests {
         WildTest.run();
         String program = arguments.length > 0 ? arguments[0] : "src/main/java/BendTable.java";
         LanguageTest.run(program);
-        RulesTest.run(program);
+        // A java without its compiler can't read the program as the compiler does.
+        if (ModuleLayer.boot().findModule("jdk.compiler").isPresent()) {
+            RulesTest.run(program);
+        } else {
+            System.out.println("RulesTest needs the module jdk.compiler: not run");
+        }
         ModelTest.run();
         System.out.println(Check.made + " answers looked at, " + Check.wrong + " not as due");
         if (Check.wrong > 0) {
